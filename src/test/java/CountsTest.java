@@ -4,6 +4,9 @@ final class CountsTest {
 
     public static void main(String[] args) {
         withoutReports();
+        aRiderAlone();
+        theLastFenceCounts();
+        seenInManyWays();
         lastReportsCount();
         fencesCount();
         kindsAreSeen();
@@ -22,6 +25,45 @@ final class CountsTest {
         long[] want = {0, 0, 0, 0, 0, 0, 0, 0, 0, 0, 0, 2, 0, 0, 120, -1000000, -1000000, -1};
         for (int what = 0; what < want.length; what++) {
             DUE.due("14: count(0, " + what + ")", x.count(0, what), want[what]);
+        }
+    }
+
+    private static void aRiderAlone() {
+        ThreeDays x = new ThreeDays();
+        x.rider(0);
+        DUE.due("14: no start", x.count(0, 15), -1000000);
+        x.rider(0);
+        DUE.due("14: no finish of one who came behind", x.count(1, 16), -1000000);
+        DUE.due("14: no time of one who came behind", x.count(1, 17), -1);
+    }
+
+    private static void theLastFenceCounts() {
+        ThreeDays x = new ThreeDays();
+        x.rider(0);
+        for (int n = 0; n < 30; n++) {
+            x.fence(1);
+        }
+        for (int kind = 3; kind <= 6; kind++) {
+            x.report(0, kind, 29, 0, 0);
+            x.report(0, kind, 0, 0, 0);
+        }
+        DUE.due("14: refusals at fences 29 and 0", x.count(0, 2), 2);
+        DUE.due("14: falls at fences 29 and 0", x.count(0, 3), 2);
+        DUE.due("14: missed at fences 29 and 0", x.count(0, 4), 2);
+        DUE.due("14: unseen but for fences 29 and 0", x.count(0, 11), 28);
+    }
+
+    private static void seenInManyWays() {
+        for (int ways = 1; ways < 16; ways++) {
+            ThreeDays x = new ThreeDays();
+            x.rider(0);
+            x.fence(1);
+            for (int kind = 3; kind <= 6; kind++) {
+                if ((ways >> kind - 3 & 1) == 1) {
+                    x.report(0, kind, 0, 0, 0);
+                }
+            }
+            DUE.due("14: seen in ways " + ways, x.count(0, 11), 0);
         }
     }
 
@@ -123,6 +165,10 @@ final class CountsTest {
             DUE.due("14: marks of " + n, x.count(n, 0), 100 + n);
             DUE.due("14: ring of " + n, x.count(n, 1), 23 - n);
             DUE.due("14: unseen of " + n, x.count(n, 11), 0);
+        }
+        for (int n = 0; n < 24; n++) {
+            x.report(n, 8, 0, 0, 0);
+            DUE.due("14: a knock of " + n + " comes when all was told", x.count(n, 8), 1);
         }
         x.strike(2);
         DUE.due("14: unseen of 0", x.count(0, 11), 1);

@@ -49,12 +49,18 @@ final class CourseTest {
         DUE.due("6: 1000 at 700", x.course(499, 700), 86);
         DUE.due("6: 1000 at 100", x.course(499, 100), 600);
         DUE.due("6: 501 at 100", x.course(0, 100), 301);
+        DUE.due("6: a little above 19", new ThreeDays().course(32, 101), 20);
+        DUE.due("6: a little below 20", new ThreeDays().course(670, 201 * 3 - 1), 67);
         x.rider(-1);
         DUE.due("14: as a count", x.count(0, 14), 301);
         x.fence(2000);
         DUE.due("14: a fence more", x.count(0, 14), 1501);
         x.out(0, 0);
         DUE.due("14: metres stay", x.count(0, 14), 1501);
+        x.course(0, 200);
+        DUE.due("14: another speed", x.count(0, 14), 751);
+        x.course(999, 200);
+        DUE.due("14: another end", x.count(0, 14), 1050);
     }
 
     private static void courseRefuses() {

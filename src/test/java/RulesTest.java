@@ -168,6 +168,8 @@ final class RulesTest {
     private static void openBrackets() {
         good("total=((((((1))))));", 1);
         bad("total=(((((((1)))))));", 1, 12);
+        good("total=1;tie ((((((1))))));out if ((((((1))))))=((((((1))))));", 3);
+        bad("total=1;tie (((((((1)))))));", 1, 18);
         good("total=((((((1))))))+((((((1))))));", 1);
         good("total=max(1,(((((1))))));", 1);
         bad("total=max(1,((((((1)))))));", 1, 17);
@@ -313,6 +315,10 @@ final class RulesTest {
         DUE.due("15: no statement 1", x.given(0, 1), -2000000000000L);
         DUE.due("12: newer rules", Due.rules(x, "tie 1;total=marks+1;"), 2);
         DUE.due("16: newer total", x.total(0), 8);
+        for (int n = 0; n < 3; n++) {
+            DUE.due("12: no total in this one", Due.rules(x, "tie 2;"), -1);
+            DUE.due("13: no total in this one", x.fault(0), 4);
+        }
     }
 
     private static void theTapeGoes() {

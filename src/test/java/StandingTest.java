@@ -155,7 +155,6 @@ final class StandingTest {
         ThreeDays x = new ThreeDays();
         Due.rules(x, "total=marks; out if retired>0;");
         int[][] marks = {{10, 20, 30}, {5, 25, 30}, {5, 15, 40}, {20, 20, 20}};
-        int act = 0;
         for (int team = 0; team < 4; team++) {
             for (int n = 0; n < 3; n++) {
                 x.report(x.rider(team), 0, 0, marks[team][n], 0);
@@ -192,6 +191,15 @@ final class StandingTest {
         DUE.due("20: like sums", z.team(1), 30000);
         DUE.due("21: least 8000", z.teamPlace(1), 1);
         DUE.due("21: least 10000", z.teamPlace(0), 2);
+        ThreeDays far = new ThreeDays();
+        Due.rules(far, "total=marks*10;");
+        int[] tens = {1100, 1200, 1300, 1050, 1200, 1350};
+        for (int n = 0; n < tens.length; n++) {
+            far.rider(n / 3);
+            far.report(n, 0, 0, tens[n], 0);
+        }
+        DUE.due("21: both least are above 10000, the greater", far.teamPlace(0), 2);
+        DUE.due("21: both least are above 10000, the lesser", far.teamPlace(1), 1);
         z.report(4, 11, 0, 0, 0);
         z.report(5, 11, 0, 0, 0);
         z.report(6, 0, 0, 5000, 0);

@@ -85,6 +85,8 @@ final class SumsTest {
         sum("10000*10000*5000*2", LIMIT);
         sum("10000*10000*5001*2", LIMIT);
         sum("10000*10000*4999*2", 999800000000L);
+        sum("99999*99999*99999/7*7", 999999999999L);
+        sum("0-99999*99999*99999/7*7", -999999999999L);
     }
 
     private static void maxAndMin() {
@@ -205,6 +207,17 @@ final class SumsTest {
         DUE.due("12: 600 bytes", wide.length(), 600);
         DUE.due("12: 600 bytes", Due.rules(x, wide.toString()), 1);
         DUE.due("16: 600 bytes", x.total(0), 297);
+        for (int n = 1; n <= 6; n++) {
+            Due.rules(x, wide.toString().replace("l=1", "l=" + n));
+            DUE.due("16: 600 bytes, over and over", x.total(0), 296 + n);
+        }
+        StringBuilder many = new StringBuilder();
+        for (int n = 0; n < 23; n++) {
+            many.append("tie 1;");
+        }
+        Due.rules(x, many + "total=" + deep + ";");
+        DUE.due("16: deep behind 23 others", x.total(0), 511);
+        DUE.due("15: the last of the others", x.given(0, 22), 1);
     }
 
     private static void wrongOnes() {
