@@ -26,7 +26,7 @@ public final class ThreeDays {
         riders = new Riders();
         course = new Course();
         log = new Log();
-        reader = new Reader();
+        reader = new Reader(tape);
         inForce = new Rules();
         spare = new Rules();
         board = new Board(riders, course, log, inForce);
@@ -97,7 +97,7 @@ public final class ThreeDays {
     }
 
     public int rules() {
-        boolean isGood = reader.read(tape, spare);
+        boolean isGood = reader.read(spare);
         tape.cut(0);
         if (!isGood) {
             return NONE;
@@ -117,12 +117,14 @@ public final class ThreeDays {
     }
 
     public int count(int rider, int what) {
-        Sheet sheet = sheetOf(rider);
+        board.knowAt(toldAct());
+        Sheet sheet = board.sheetAt(rider);
         return sheet == null ? NO_COUNT : sheet.countOf(what);
     }
 
     public long given(int rider, int k) {
-        Sheet sheet = sheetOf(rider);
+        board.knowAt(toldAct());
+        Sheet sheet = board.sheetAt(rider);
         if (sheet == null || !isWithin(k, 0, inForce.statements - 1)) {
             return NO_SUM;
         }
@@ -130,12 +132,14 @@ public final class ThreeDays {
     }
 
     public long total(int rider) {
-        Sheet sheet = sheetOf(rider);
+        board.knowAt(toldAct());
+        Sheet sheet = board.sheetAt(rider);
         return sheet == null ? NO_SUM : sheet.total;
     }
 
     public int isOut(int rider) {
-        Sheet sheet = sheetOf(rider);
+        board.knowAt(toldAct());
+        Sheet sheet = board.sheetAt(rider);
         if (sheet == null) {
             return NONE;
         }
@@ -143,8 +147,9 @@ public final class ThreeDays {
     }
 
     public int against(int a, int b) {
-        Sheet one = sheetOf(a);
-        Sheet other = sheetOf(b);
+        board.knowAt(toldAct());
+        Sheet one = board.sheetAt(a);
+        Sheet other = board.sheetAt(b);
         if (one == null || other == null || one.isOff || other.isOff) {
             return -2;
         }
@@ -152,34 +157,34 @@ public final class ThreeDays {
     }
 
     public int place(int rider) {
-        makeKnown(toldAct());
+        board.knowAt(toldAct());
         return board.placeOf(rider);
     }
 
     public long team(int team) {
-        makeKnown(toldAct());
+        board.knowAt(toldAct());
         return riders.sizeOfTeam(team) == 0 ? NONE : board.teamSum(team);
     }
 
     public int teamPlace(int team) {
-        makeKnown(toldAct());
+        board.knowAt(toldAct());
         return riders.sizeOfTeam(team) == 0 ? NONE : board.placeOfTeam(team);
     }
 
     public int ring(int i) {
-        makeKnown(toldAct());
+        board.knowAt(toldAct());
         return board.inRing(i);
     }
 
     public int since(int rider) {
         int told = toldAct();
-        makeKnown(told);
+        board.knowAt(told);
         int now = board.placeOf(rider);
         if (now == NONE) {
             return NONE;
         }
         for (int act = told - 1; act >= 0; act--) {
-            makeKnown(act);
+            board.knowAt(act);
             if (board.placeOf(rider) != now) {
                 return act;
             }
@@ -208,16 +213,6 @@ public final class ThreeDays {
 
     private int toldAct() {
         return askedAct == NONE ? log.acts : askedAct;
-    }
-
-    private void makeKnown(int act) {
-        board.moveTo(act);
-        board.refresh();
-    }
-
-    private Sheet sheetOf(int rider) {
-        makeKnown(toldAct());
-        return board.sheetAt(rider);
     }
 
     private boolean canBe(int kind, int fence, int a, int b) {
@@ -835,10 +830,14 @@ public final class ThreeDays {
         private static final int WORD = 'a';
         private static final int DIGITS = '0';
 
+        // A word is one number, five bits a letter: so words are alike if their numbers are. No letter is 0,
+        // so that a word too long to be kept whole is still unlike all that are not.
+        private static final int LETTER_BITS = 5;
+        private static final int BEFORE_A = 'a' - 1;
+
         private static final String COUNT_WORDS =
                 "marks ring refusals falls missed first second third knocks looks retired unseen over under optimum";
 
-        // A word is one number, five bits a letter: so words are alike if their numbers are.
         private final long outWord = packed("out");
         private final long ifWord = packed("if");
         private final long tieWord = packed("tie");
@@ -847,7 +846,7 @@ public final class ThreeDays {
         private final long totalWord = packed("total");
         private final long[] names = new long[Sheet.VALUES];
 
-        private Tape tape;
+        private final Tape tape;
         private Rules rules;
         private int at;
         private int token;
@@ -856,7 +855,8 @@ public final class ThreeDays {
         int found;
         int foundAt = NONE;
 
-        Reader() {
+        Reader(Tape tape) {
+            this.tape = tape;
             int slot = 0;
             for (int i = 0; i < COUNT_WORDS.length() && slot < Sheet.COUNTS; i++) {
                 char letter = COUNT_WORDS.charAt(i);
@@ -877,11 +877,10 @@ public final class ThreeDays {
         }
 
         private static long withLetter(long word, int letter) {
-            return (word << 5) | (letter - 'a' + 1);
+            return (word << LETTER_BITS) | (letter - BEFORE_A);
         }
 
-        boolean read(Tape text, Rules into) {
-            tape = text;
+        boolean read(Rules into) {
             rules = into;
             rules.clear();
             for (int slot = Sheet.COUNTS; slot < Sheet.VALUES; slot++) {
@@ -892,7 +891,16 @@ public final class ThreeDays {
             at = 0;
             advance();
             for (int k = 0; k <= Rules.MOST && token != END; k++) {
-                readStatement(k);
+                if (k == Rules.MOST || token != WORD) {
+                    fail(NO_TEXT, tokenAt);
+                } else if (tokenValue == outWord) {
+                    readOutIf();
+                } else if (tokenValue == tieWord) {
+                    readTie();
+                } else {
+                    readGiving(Sheet.COUNTS + k);
+                }
+                expect(';');
             }
             if (!rules.hasTotal()) {
                 fail(NO_TOTAL, tape.length);
@@ -900,19 +908,10 @@ public final class ThreeDays {
             return found == 0;
         }
 
-        private void readStatement(int k) {
-            if (k >= Rules.MOST || token != WORD) {
-                fail(NO_TEXT, tokenAt);
-            } else if (tokenValue == outWord) {
-                readOutIf();
-            } else if (tokenValue == tieWord) {
-                advance();
-                readSum(0);
-                rules.closeStatement(Rules.PARTS);
-            } else {
-                readGiving(Sheet.COUNTS + k);
-            }
-            expect(';');
+        private void readTie() {
+            advance();
+            readSum(0);
+            rules.closeStatement(Rules.PARTS);
         }
 
         private void readOutIf() {
@@ -944,12 +943,8 @@ public final class ThreeDays {
         }
 
         private void readGiving(int slot) {
-            checkName();
             long name = tokenValue;
-            if (slotOf(name) != NONE) {
-                fail(WRONG_NAME, tokenAt);
-            }
-            advance();
+            takeName(false);
             expect('=');
             readSum(0);
             rules.closeStatement(Rules.GIVES);
@@ -985,47 +980,37 @@ public final class ThreeDays {
         }
 
         private void readFactor(int open) {
+            int pairStep = pairStep();
             if (token == DIGITS) {
                 rules.addStep(Rules.NUMBER, takeNumber());
-            } else if (token == WORD && (tokenValue == maxWord || tokenValue == minWord)) {
-                readPair(open);
-            } else if (token == WORD) {
-                readName();
-            } else if (isOpened(open)) {
-                readSum(open + 1);
-                expect(')');
+                return;
             }
-        }
-
-        private void readPair(int open) {
-            int step = tokenValue == maxWord ? Rules.GREATER_OF : Rules.LESSER_OF;
-            advance();
-            if (isOpened(open)) {
-                readSum(open + 1);
-                expect(',');
-                readSum(open + 1);
-                expect(')');
-                rules.addStep(step, 0);
+            if (token == WORD && pairStep == NONE) {
+                rules.addStep(Rules.VALUE, takeName(true));
+                return;
             }
-        }
-
-        private boolean isOpened(int open) {
+            if (pairStep != NONE) {
+                advance();
+            }
             if (token != '(' || open >= MOST_OPEN) {
                 fail(NO_TEXT, tokenAt);
-                return false;
+                return;
             }
             advance();
-            return true;
+            readSum(open + 1);
+            if (pairStep != NONE) {
+                expect(',');
+                readSum(open + 1);
+                rules.addStep(pairStep, 0);
+            }
+            expect(')');
         }
 
-        private void readName() {
-            checkName();
-            int slot = slotOf(tokenValue);
-            if (slot == NONE) {
-                fail(WRONG_NAME, tokenAt);
+        private int pairStep() {
+            if (token == WORD && tokenValue == maxWord) {
+                return Rules.GREATER_OF;
             }
-            rules.addStep(Rules.VALUE, slot);
-            advance();
+            return token == WORD && tokenValue == minWord ? Rules.LESSER_OF : NONE;
         }
 
         private void readDivisor() {
@@ -1049,14 +1034,22 @@ public final class ThreeDays {
             return number;
         }
 
-        private void checkName() {
-            if (tokenValue == outWord || tokenValue == ifWord || tokenValue == tieWord
-                    || tokenValue == maxWord || tokenValue == minWord) {
+        /** In a sum a name is known already; where it is given one, it is new. */
+        private int takeName(boolean isInSum) {
+            int slot = slotOf(tokenValue);
+            if (isKept(tokenValue)) {
                 fail(NO_TEXT, tokenAt);
-            }
-            if (at - tokenAt > MOST_LETTERS) {
+            } else if (at - tokenAt > MOST_LETTERS) {
                 fail(NO_TEXT, tokenAt + MOST_LETTERS);
+            } else if ((slot != NONE) != isInSum) {
+                fail(WRONG_NAME, tokenAt);
             }
+            advance();
+            return slot;
+        }
+
+        private boolean isKept(long word) {
+            return word == outWord || word == ifWord || word == tieWord || word == maxWord || word == minWord;
         }
 
         private int slotOf(long name) {
@@ -1094,30 +1087,20 @@ public final class ThreeDays {
             }
             tokenAt = at;
             tokenValue = 0;
-            if (at >= length) {
-                token = END;
-            } else if (isLetter(bytes[at])) {
+            token = at < length ? bytes[at] : END;
+            if (token >= 'a' && token <= 'z') {
                 token = WORD;
-                for (; at < length && isLetter(bytes[at]); at++) {
-                    tokenValue = withLetter(tokenValue, bytes[at]);
+                for (; at < length && bytes[at] >= 'a' && bytes[at] <= 'z'; at++) {
+                    tokenValue = (tokenValue << LETTER_BITS) | (bytes[at] - BEFORE_A);
                 }
-            } else if (isDigit(bytes[at])) {
+            } else if (token >= '0' && token <= '9') {
                 token = DIGITS;
-                for (; at < length && isDigit(bytes[at]); at++) {
+                for (; at < length && bytes[at] >= '0' && bytes[at] <= '9'; at++) {
                     tokenValue = tokenValue * 10 + (bytes[at] - '0');
                 }
-            } else {
-                token = bytes[at];
+            } else if (token != END) {
                 at++;
             }
-        }
-
-        private static boolean isLetter(int character) {
-            return isWithin(character, 'a', 'z');
-        }
-
-        private static boolean isDigit(int character) {
-            return isWithin(character, '0', '9');
         }
     }
 
@@ -1154,8 +1137,21 @@ public final class ThreeDays {
             forget();
         }
 
+        /** What the other methods answer is as known at the act that was named here last. */
+        void knowAt(int act) {
+            moveTo(act);
+            for (int rider = 0; rider < riders.number; rider++) {
+                Sheet sheet = sheets[rider];
+                if (sheet.isStale) {
+                    tally.fill(sheet, rider, act);
+                    rules.apply(sheet);
+                    sheet.isStale = false;
+                }
+            }
+        }
+
         /** Only the riders of the acts between are known otherwise there. */
-        void moveTo(int act) {
+        private void moveTo(int act) {
             int last = Math.max(knownAct, act);
             for (int between = Math.min(knownAct, act) + 1; between <= last; between++) {
                 markStale(log.riderOf(between));
@@ -1166,17 +1162,6 @@ public final class ThreeDays {
         private void markStale(int rider) {
             if (isWithin(rider, 0, Riders.MOST - 1)) {
                 sheets[rider].isStale = true;
-            }
-        }
-
-        void refresh() {
-            for (int rider = 0; rider < riders.number; rider++) {
-                Sheet sheet = sheets[rider];
-                if (sheet.isStale) {
-                    tally.fill(sheet, rider, knownAct);
-                    rules.apply(sheet);
-                    sheet.isStale = false;
-                }
             }
         }
 

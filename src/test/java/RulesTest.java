@@ -134,6 +134,9 @@ final class RulesTest {
         bad("total=1;out if 1<", 1, 17);
         bad("total=1;tie \n", 1, 13);
         bad("a=1", 1, 3);
+        bad("total=1;" + " ".repeat(591) + "a", 1, 600);
+        bad("total=1;tie" + " ".repeat(587) + "12", 1, 600);
+        bad("total=1;tie" + " ".repeat(588) + "x", 3, 599);
     }
 
     private static void longWordsAndNumbers() {
@@ -182,23 +185,15 @@ final class RulesTest {
         bad("total=1;out if ((((((1))))))<(((((((1", 1, 35);
     }
 
-    private static String repeat(String text, int times) {
-        StringBuilder all = new StringBuilder();
-        for (int n = 0; n < times; n++) {
-            all.append(text);
-        }
-        return all.toString();
-    }
-
     private static void statementsAreTwentyFour() {
-        good("total=1;" + repeat("tie 1;", 23), 24);
-        good("total=1;" + repeat("tie 1;", 23) + " \n", 24);
-        bad("total=1;" + repeat("tie 1;", 24), 1, 8 + 23 * 6);
-        bad("total=1;" + repeat("tie 1;", 23) + "  marks=1;", 1, 8 + 23 * 6 + 2);
-        bad("total=1;" + repeat("tie 1;", 23) + "abcdefghijklm", 1, 8 + 23 * 6);
-        bad("total=1;" + repeat("tie 1;", 23) + ";", 1, 8 + 23 * 6);
-        bad(repeat("tie 1;", 24), 4, 24 * 6);
-        bad(repeat("tie 1;", 24) + "total=1;", 1, 24 * 6);
+        good("total=1;" + "tie 1;".repeat(23), 24);
+        good("total=1;" + "tie 1;".repeat(23) + " \n", 24);
+        bad("total=1;" + "tie 1;".repeat(24), 1, 8 + 23 * 6);
+        bad("total=1;" + "tie 1;".repeat(23) + "  marks=1;", 1, 8 + 23 * 6 + 2);
+        bad("total=1;" + "tie 1;".repeat(23) + "abcdefghijklm", 1, 8 + 23 * 6);
+        bad("total=1;" + "tie 1;".repeat(23) + ";", 1, 8 + 23 * 6);
+        bad("tie 1;".repeat(24), 4, 24 * 6);
+        bad("tie 1;".repeat(24) + "total=1;", 1, 24 * 6);
     }
 
     private static void divisionsByZero() {
