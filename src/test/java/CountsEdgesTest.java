@@ -11,6 +11,7 @@ final class CountsEdgesTest {
 
     public static void main(String[] args) {
         noughtWithout();
+        eachKindAlone();
         lastSuchReport();
         howManyAtFences();
         firstSecondThird();
@@ -49,6 +50,24 @@ final class CountsEdgesTest {
             y.strike(1);
             EDGES.due("marks, struck", y.count(0, 0), 0);
             EDGES.due("ring, struck", y.count(0, 1), 0);
+        }
+    }
+
+    /** Of every kind every count: one report touches its own and no other. */
+    private static void eachKindAlone() {
+        EDGES.sentence("II: COUNTS of a RIDER: those of such a REPORT, and of no other");
+        int[][] changed = {{0, 1}, {START, 1}, {FINISH, 1}, {2, 1, 5, 1, 11, 0}, {3, 1, 11, 0}, {4, 1, 11, 0}, {11, 0}, {},
+            {8, 1}, {1, 1}, {9, 1}, {10, 1}};
+        for (int kind = 0; kind <= 11; kind++) {
+            int[] want = {0, 0, 0, 0, 0, 0, 0, 0, 0, 0, 0, 1, 0, 0, 2, NO_SECOND, NO_SECOND, -1};
+            for (int i = 0; i < changed[kind].length; i += 2) {
+                want[changed[kind][i]] = changed[kind][i + 1];
+            }
+            ThreeDays x = rider(1);
+            x.report(0, kind, 0, 1, 2);
+            for (int what = 0; what < want.length; what++) {
+                EDGES.due("count(0, " + what + ") behind kind " + kind, x.count(0, what), want[what]);
+            }
         }
     }
 
